@@ -380,7 +380,10 @@ public final class SurprisedPlans {
         return other.costAsPlannedBy(chosen) - other.leastCost();
     }
 
-    /** Does a command, told by its six digits, on the copy. */
+    /**
+     * Does a command, told by its six digits, on the copy. The calls that are told to answer 0 or more always do, and
+     * are made for what they change.
+     */
     private boolean succeeds(int command) {
         int d1 = command / 100000;
         int d2 = command / 10000 % 10;
@@ -877,7 +880,8 @@ public final class SurprisedPlans {
             if (rows > MOST_ROWS) {
                 rows = MOST_ROWS;
             }
-            int pair = pairIndex(0, high);
+            // The pair of the lowest table and this one; those with the next ones stand behind it.
+            int pair = high * (high - 1) / 2;
             for (int low = 0; low < high; low++) {
                 int share = pair >= 0 && pair < PAIRS ? shares[pair] : 0;
                 if ((lower >> low & 1) == 1 && share > 0) {

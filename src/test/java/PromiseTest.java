@@ -238,6 +238,9 @@ public final class PromiseTest {
         dueError(false, "p061,1;p10999,1;t5", NONE);
         dueError(false, "p061,1;p10999,1;", 16);
         dueError(false, "0>1", 0);
+        dueError(false, "t1234;".repeat(16) + "t999", NONE);
+        dueError(false, "t1234;".repeat(16) + "t99;", 100);
+        dueError(false, "t1234;".repeat(16) + "t99x", 99);
     }
 
     private static void errorPositionOfPlans() {
@@ -316,6 +319,12 @@ public final class PromiseTest {
         dueThrow("restore(1)", STATE, () -> y.restore(1));
         due("load() once more, as the text is kept", 5, () -> y.load());
         due("about(0) behind it", 7, () -> y.about(0));
+        write(y, "t1234;".repeat(16) + "t999");
+        due("load() of 100 characters", 10, () -> y.load());
+        due("size(6)", 1234, () -> y.size(6));
+        due("about(1)", 0, () -> y.about(1));
+        y.clearText();
+        write(y, text);
         due("clearText()", text.length(), () -> y.clearText());
     }
 
@@ -488,6 +497,9 @@ public final class PromiseTest {
         dueThrow("resize(-1, 5)", INDEX, () -> x.resize(-1, 5));
         due("undo()", 1, () -> x.undo());
         due("size(4) behind undo", 1, () -> x.size(4));
+        SurprisedPlans y = seven();
+        due("resize(6, 5)", 9999, () -> y.resize(6, 5));
+        due("size(6)", 5, () -> y.size(6));
     }
 
     private static void link() {
@@ -498,6 +510,10 @@ public final class PromiseTest {
         x.add(10);
         due("link(2, 0, 1, 1000)", 1, () -> x.link(2, 0, 1, 1000));
         due("link(1, 2, 1000, 1)", 2, () -> x.link(1, 2, 1000, 1));
+        due("link(0, 1, 5, 5)", 3, () -> x.link(0, 1, 5, 5));
+        due("undo() of link", 5, () -> x.undo());
+        due("pair(0, 1, 0) behind undo", NONE, () -> x.pair(0, 1, 0));
+        due("pair(1, 2, 1) behind undo", 1, () -> x.pair(1, 2, 1));
         due("pair(0, 2, 0)", 1, () -> x.pair(0, 2, 0));
         due("pair(0, 2, 1)", 1000, () -> x.pair(0, 2, 1));
         x.run(7);
@@ -1018,6 +1034,26 @@ public final class PromiseTest {
         due("set, and no surprise by it", 2, () -> regrets.runScript(3, 400999_100003_800001L));
         due("a memory, 0 weeks old", NONE, () -> regrets.runScript(2, 100031_723000L));
         due("a memory, forgotten", 2, () -> regrets.runScript(3, 100031_200005_723099L));
+        due("link, and then drift", NONE, () -> regrets.runScript(2, 502005_302006L));
+        due("another order behind a run", NONE, () -> regrets.runScript(3, 610031_100031_630031L));
+        SurprisedPlans dear = loaded("t6;t7;t9999;p011,1000");
+        due("a regret", 0, () -> dear.runScript(1, 900007L));
+        due("no regret behind a drift", NONE, () -> dear.runScript(2, 301001_900007L));
+        SurprisedPlans many = seven();
+        many.set(1, 1);
+        for (int high = 1; high < 7; high++) {
+            for (int low = 0; low < high; low++) {
+                many.link(low, high, 1, 1000);
+            }
+        }
+        for (int i = 0; i < 4; i++) {
+            many.run(127);
+        }
+        dueCommands(many, true, 800084);
+        dueCommands(many, false, 800085, 800099);
+        many.run(127);
+        dueCommands(many, true, 800099);
+        dueCommands(many, false, 800100);
         due("run, and no regret behind it", NONE, () -> regrets.runScript(2, 100031_900031L));
         due("about(5), as it is a copy", 0, () -> regrets.about(5));
         due("pair(3, 4, 0), as it is a copy", 1000, () -> regrets.pair(3, 4, 0));
