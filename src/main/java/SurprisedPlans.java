@@ -928,7 +928,7 @@ public final class SurprisedPlans {
         private void followNext() {
             int done = 0;
             for (int k = 0; k < TABLES; k++) {
-                int t = done < SETS ? nextOf[done] : NONE;
+                int t = isIn(done, 0, SETS - 1) ? nextOf[done] : NONE;
                 if (t < 0 || t >= TABLES) {
                     return;
                 }

@@ -566,6 +566,9 @@ public final class ModelTest {
         long on();
     }
 
+    /** What the worlds of a run are like: anything; huge in truth, but believed small; or of tables that are alike. */
+    private enum Mood { USUAL, BELIEVED_SMALL, ALIKE }
+
     private static final class Run {
         int calls;
         private final long seed;
@@ -573,6 +576,7 @@ public final class ModelTest {
         private final SurprisedPlans program = new SurprisedPlans();
         private final Model model = new Model();
         private final int mostTables;
+        private final Mood mood;
         private final List<String> told = new ArrayList<>();
         private boolean wrong;
 
@@ -580,6 +584,8 @@ public final class ModelTest {
             this.seed = seed;
             random = new Random(seed * 7919);
             mostTables = seed % 6 == 0 ? 7 : (int) (2 + seed % 6);
+            Mood[] moods = {Mood.USUAL, Mood.USUAL, Mood.BELIEVED_SMALL, Mood.ALIKE};
+            mood = moods[(int) Math.floorMod(seed / 6, 4L)];
         }
 
         boolean agrees() {
@@ -599,7 +605,7 @@ public final class ModelTest {
             for (int a = 0; a < mostTables; a++) {
                 for (int b = a + 1; b < mostTables; b++) {
                     if (random.nextInt(3) > 0) {
-                        link(a, b, share(), share());
+                        link(a, b, guess(), share());
                     }
                 }
             }
@@ -665,6 +671,12 @@ public final class ModelTest {
         }
 
         private int size() {
+            if (mood == Mood.ALIKE) {
+                return in(1, 4);
+            }
+            if (mood == Mood.BELIEVED_SMALL && random.nextInt(5) > 0) {
+                return in(9990, 9999);
+            }
             return switch (random.nextInt(4)) {
                 case 0 -> in(1, 12);
                 case 1 -> in(1, 200);
@@ -672,7 +684,17 @@ public final class ModelTest {
             };
         }
 
+        private int guess() {
+            return mood == Mood.BELIEVED_SMALL ? in(1, 2) : share();
+        }
+
         private int share() {
+            if (mood == Mood.ALIKE) {
+                return 500 * in(1, 2);
+            }
+            if (mood == Mood.BELIEVED_SMALL && random.nextInt(5) > 0) {
+                return in(900, 1000);
+            }
             return switch (random.nextInt(4)) {
                 case 0 -> in(1, 10);
                 case 1 -> in(1, 200);
@@ -720,7 +742,7 @@ public final class ModelTest {
                         return model.now.sizes.set(a, size);
                     });
                 }
-                case 2, 3 -> link(a, b, share(), share());
+                case 2, 3 -> link(a, b, guess(), share());
                 case 4, 5, 6 -> {
                     int share = share();
                     action("drift(" + a + ", " + b + ", " + share + ")", () -> program.drift(a, b, share),
@@ -738,12 +760,21 @@ public final class ModelTest {
                             : what == 1 ? in(1, 10) : in(0, 20);
                     action("set(" + what + ", " + v + ")", () -> program.set(what, v), () -> model.now.set(what, v));
                 }
-                default -> check("undo()", () -> program.undo(), () -> {
-                    state(!model.past.isEmpty());
-                    model.now = model.past.removeLast();
-                    return model.past.size();
-                });
+                default -> {
+                    int times = rarely() ? 16 : 1;
+                    for (int i = 0; i < times; i++) {
+                        undo();
+                    }
+                }
             }
+        }
+
+        private void undo() {
+            check("undo()", () -> program.undo(), () -> {
+                state(!model.past.isEmpty());
+                model.now = model.past.removeLast();
+                return model.past.size();
+            });
         }
 
         private void oneQuestion(int which) {

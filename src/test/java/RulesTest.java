@@ -1,4 +1,6 @@
 import java.io.IOException;
+import java.io.PrintWriter;
+import java.io.StringWriter;
 import java.lang.management.ManagementFactory;
 import java.lang.reflect.Constructor;
 import java.lang.reflect.Field;
@@ -6,10 +8,16 @@ import java.lang.reflect.Method;
 import java.lang.reflect.Modifier;
 import java.nio.file.Files;
 import java.nio.file.Path;
+import java.util.ArrayList;
 import java.util.Arrays;
+import java.util.List;
+import java.util.Map;
 import java.util.Set;
+import java.util.TreeMap;
 import java.util.TreeSet;
+import java.util.regex.Matcher;
 import java.util.regex.Pattern;
+import java.util.spi.ToolProvider;
 import java.util.stream.Collectors;
 
 /** The public face of the document, and those rules of LANGUAGE.md that can be seen from outside or in the text. */
@@ -56,6 +64,15 @@ public final class RulesTest {
         "\\bRandom\\b", "\\bnanoTime\\b", "\\bcurrentTimeMillis\\b", "Exact\\b", "\\bvar\\b", "while\\s*\\(\\s*true",
     };
 
+    /** A method's head and a call in it, as javap writes them. */
+    private static final Pattern METHOD = Pattern.compile("  (?:[\\w.$\\[\\]]+ )*([\\w$.]+)\\([^()]*\\).*;");
+    private static final Pattern CALL = Pattern.compile("// (?:Interface)?Method (?:([\\w$/]+)\\.)?\"?([\\w<>$]+)\"?:");
+
+    /** What the program uses of what rule 4 allows; it may become more, but only by what stands there. */
+    private static final Pattern LIBRARY = Pattern.compile("java\\.lang\\.(Object\\.<init>"
+            + "|(IllegalArgument|IllegalState|IndexOutOfBounds)Exception\\.<init>"
+            + "|Math\\.(abs|max|min)|System\\.arraycopy)");
+
     private static int wrong = 0;
 
     public static void main(String[] args) throws IOException {
@@ -68,6 +85,9 @@ public final class RulesTest {
             members(c);
         }
         text();
+        Map<String, Set<String>> calls = callsOfMethods();
+        library(calls);
+        depth(calls);
         makesNothing();
         System.out.println("RulesTest: " + wrong + " wrong");
         if (wrong != 0) {
@@ -146,6 +166,88 @@ public final class RulesTest {
             need(lines <= 60, "a method of " + lines + " lines: " + matcher.group().lines().findFirst().orElse(""));
         }
         need(methods > 100, "only " + methods + " methods seen");
+    }
+
+    /** The methods, each with those that it calls, read from the compiled classes; names are Class.method. */
+    private static Map<String, Set<String>> callsOfMethods() throws IOException {
+        Map<String, Set<String>> calls = new TreeMap<>();
+        for (Class<?> c : ownClasses()) {
+            StringWriter told = new StringWriter();
+            ToolProvider javap = ToolProvider.findFirst("javap").orElseThrow();
+            String path = System.getProperty("java.class.path");
+            javap.run(new PrintWriter(told), new PrintWriter(told), "-p", "-c", "-cp", path, c.getName());
+            need(!told.toString().contains("Exception table"), c + " catches an exception");
+            Set<String> called = new TreeSet<>();
+            for (String line : told.toString().split("\\R")) {
+                Matcher method = METHOD.matcher(line);
+                Matcher call = CALL.matcher(line);
+                if (method.matches()) {
+                    String name = method.group(1).equals(c.getName()) ? "<init>" : method.group(1);
+                    called = calls.computeIfAbsent(c.getName() + "." + name, k -> new TreeSet<>());
+                } else if (call.find()) {
+                    String of = call.group(1) == null ? c.getName() : call.group(1).replace('/', '.');
+                    called.add(of + "." + call.group(2));
+                    addCallsBelow(called, of, call.group(2));
+                }
+            }
+        }
+        need(calls.size() > 100, "only " + calls.size() + " methods read");
+        return calls;
+    }
+
+    /** A call of a method of an abstract class may be one of any class below it. */
+    private static void addCallsBelow(Set<String> called, String of, String name) {
+        for (Class<?> c : ownClasses()) {
+            Class<?> above = c.getSuperclass();
+            if (above != null && above.getName().equals(of) && !name.equals("<init>")) {
+                called.add(c.getName() + "." + name);
+            }
+        }
+    }
+
+    private static List<Class<?>> ownClasses() {
+        List<Class<?>> all = new ArrayList<>(Arrays.asList(SurprisedPlans.class.getDeclaredClasses()));
+        all.add(SurprisedPlans.class);
+        return all;
+    }
+
+    /** Rule 4. */
+    private static void library(Map<String, Set<String>> calls) {
+        for (Map.Entry<String, Set<String>> e : calls.entrySet()) {
+            for (String call : e.getValue()) {
+                need(!call.startsWith("java") || LIBRARY.matcher(call).matches(), e.getKey() + " calls " + call);
+            }
+        }
+    }
+
+    /** Rules 8 and 11: calls go at most eight deep, and none comes back to itself. */
+    private static void depth(Map<String, Set<String>> calls) {
+        Map<String, List<String>> deepest = new TreeMap<>();
+        for (String method : calls.keySet()) {
+            List<String> down = deepestFrom(method, calls, deepest, 0);
+            need(down.size() <= 8, "calls go too deep: " + String.join(" > ", down));
+        }
+    }
+
+    private static List<String> deepestFrom(
+            String method, Map<String, Set<String>> calls, Map<String, List<String>> deepest, int above) {
+        List<String> known = deepest.get(method);
+        if (known != null) {
+            return known;
+        }
+        List<String> down = new ArrayList<>();
+        // Far above the eight that are allowed: it ends for calls in a circle, too, and is told as too deep.
+        if (above < 50) {
+            for (String call : calls.getOrDefault(method, Set.of())) {
+                List<String> further = calls.containsKey(call)
+                        ? deepestFrom(call, calls, deepest, above + 1) : List.of();
+                down = further.size() > down.size() ? further : down;
+            }
+        }
+        down = new ArrayList<>(down);
+        down.add(0, method);
+        deepest.put(method, down);
+        return down;
     }
 
     /** Calls make no objects: all of them are made by the constructor, of which a run may call many. */
